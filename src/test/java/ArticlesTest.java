@@ -15,6 +15,7 @@ final class ArticlesTest {
         wordsAndPriorities();
         divisions();
         lateCorrections();
+        lateForAnyKeptIssue();
         Check.end();
     }
 
@@ -291,5 +292,30 @@ final class ArticlesTest {
         Check.correct(undone, 0, 0, "ox");
         undone.undo();
         Check.same("15 undo takes the late one back", undone.lateCorrections(), 0);
+    }
+
+    /** The article stands in one issue alone, which grows older until it is removed. */
+    private static void lateForAnyKeptIssue() {
+        for (int before = 0; before < 4; before++) {
+            for (int behind = 0; behind < 5; behind++) {
+                StoneGazette gazette = new StoneGazette();
+                Check.add(gazette, 1, "moss");
+                Check.add(gazette, 9, "slate");
+                gazette.setPage(1, 1);
+                printTimes(gazette, before);
+                gazette.setPage(1, 2);
+                gazette.print();
+                gazette.setPage(1, 1);
+                printTimes(gazette, behind);
+                Check.correct(gazette, 0, 0, "ox");
+                Check.same("15 " + before + " before, " + behind + " behind", gazette.lateCorrections(), behind < 4 ? 1 : 0);
+            }
+        }
+    }
+
+    private static void printTimes(StoneGazette gazette, int times) {
+        for (int i = 0; i < times; i++) {
+            gazette.print();
+        }
     }
 }

@@ -32,13 +32,19 @@ final class Check {
         same(what, outcome(call), "throws " + due.getName());
     }
 
-    /** The answer of a call, or the exact class of what it throws. */
+    /** The answer of a call, or the exact class of what it throws with a throw statement. */
     static Object outcome(Call call) {
         try {
             return call.run();
         } catch (RuntimeException e) {
-            return "throws " + e.getClass().getName();
+            return "throws " + e.getClass().getName() + (isOwn(e) ? "" : " by the library");
         }
+    }
+
+    /** A list's get, say, throws the same class as the document wants, but from a frame of its own. */
+    private static boolean isOwn(RuntimeException thrown) {
+        StackTraceElement[] frames = thrown.getStackTrace();
+        return frames.length > 0 && frames[0].getClassName().matches("(StoneGazette|Mirror)(\\$.*)?");
     }
 
     static void type(StoneGazette gazette, String text) {

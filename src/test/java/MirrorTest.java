@@ -1,6 +1,7 @@
 import java.lang.reflect.InvocationTargetException;
 import java.lang.reflect.Method;
 import java.util.ArrayList;
+import java.util.Arrays;
 import java.util.Comparator;
 import java.util.List;
 import java.util.Random;
@@ -138,7 +139,7 @@ final class MirrorTest {
                 arguments[i] = numbers[i];
             }
         }
-        String call = method.getName() + java.util.Arrays.toString(arguments);
+        String call = method.getName() + Arrays.toString(Arrays.copyOf(numbers, arguments.length));
         calls.append(call).append(' ');
         Object due = Check.outcome(() -> mirror.answer(method.getName(), numbers[0], numbers[1], numbers[2]));
         Object got = Check.outcome(() -> invoke(method, arguments));

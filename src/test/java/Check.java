@@ -53,6 +53,15 @@ final class Check {
         }
     }
 
+    /** A newspaper with an article for each text, all with the same priority. */
+    static StoneGazette with(String... texts) {
+        StoneGazette gazette = new StoneGazette();
+        for (String text : texts) {
+            add(gazette, 5, text);
+        }
+        return gazette;
+    }
+
     static int add(StoneGazette gazette, int priority, String text) {
         type(gazette, text);
         return gazette.addArticle(priority);

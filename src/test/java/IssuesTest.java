@@ -14,7 +14,6 @@ final class IssuesTest {
         days();
         fading();
         becomingUnreadable();
-        longFading();
         Check.end();
     }
 
@@ -206,20 +205,5 @@ final class IssuesTest {
         Check.same("35 both, and not the first again", gazette.passDays(2), 2);
         Check.same("35 the last one", gazette.passDays(30), 1);
         Check.same("35 none", gazette.passDays(30), 0);
-    }
-
-    /** Far down the floats lose bits and stop fading; the bits must follow there too. */
-    private static void longFading() {
-        StoneGazette gazette = new StoneGazette();
-        Check.add(gazette, 1, "moss");
-        gazette.print();
-        float due = 1.0f;
-        for (int day = 1; day <= 400; day++) {
-            gazette.passDays(1);
-            due = due * 0.75f;
-            Check.same("38 day " + day, gazette.freshnessBits(0), Float.floatToIntBits(due));
-        }
-        Check.same("37 in the end", gazette.freshness(0), due);
-        Check.same("38 in the end", gazette.freshnessBits(0), 2);
     }
 }

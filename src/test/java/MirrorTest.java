@@ -17,6 +17,7 @@ final class MirrorTest {
     private final Mirror mirror = new Mirror();
     private final List<Method> methods;
     private final StringBuilder calls = new StringBuilder();
+    private int compared = 0;
     private boolean wrong = false;
 
     private MirrorTest(int seed, List<Method> methods) {
@@ -126,9 +127,10 @@ final class MirrorTest {
 
     /** Makes one call on both newspapers; a run stops at its first wrong answer. */
     private int compare(Method method, int a, int b, int c) {
-        if (wrong) {
+        if (wrong || compared == CALLS) {
             return 1;
         }
+        compared++;
         int[] numbers = {a, b, c};
         Object[] arguments = new Object[method.getParameterCount()];
         for (int i = 0; i < arguments.length; i++) {

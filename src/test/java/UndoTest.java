@@ -48,41 +48,36 @@ final class UndoTest {
         Check.fails("50 none left", Check.STATE, gazette::undo);
     }
 
-    private static void eachChange() {
+    /** A newspaper on which as many of eight changes were made, each of another kind. */
+    private static StoneGazette changed(int count) {
         StoneGazette gazette = new StoneGazette();
-        String[] before = new String[9];
-        before[0] = seen(gazette);
-        Check.add(gazette, 3, "moss grows on stone");
-        before[1] = seen(gazette);
-        gazette.print();
-        before[2] = seen(gazette);
-        Check.correct(gazette, 0, 1, "is");
-        before[3] = seen(gazette);
-        gazette.setWidth(8);
-        before[4] = seen(gazette);
-        gazette.setPage(1, 20);
-        before[5] = seen(gazette);
-        gazette.passDays(3);
-        before[6] = seen(gazette);
-        Check.execute(gazette, "print;days 4;width 9");
-        before[7] = seen(gazette);
-        gazette.removeArticle(0);
-        before[8] = seen(gazette);
-        for (int left = 7; left >= 0; left--) {
-            Check.same("50 left", gazette.undo(), left);
-            Check.same("51 left", gazette.undoCount(), left);
-            Check.same("50 as before change " + left, seen(gazette), before[left]);
-            if (left == 5) {
-                gazette.print();
-                Check.same("50 page before undo", gazette.coverage(1), 2.0f / 20.0f);
-                gazette.undo();
-            }
-            if (left == 4) {
-                gazette.print();
-                Check.same("50 page after undo", gazette.coverage(1), 2.0f / 16.0f);
-                gazette.undo();
-            }
+        Check.Call[] changes = {
+            () -> Check.add(gazette, 3, "moss grows on stone"), gazette::print, () -> Check.correct(gazette, 0, 1, "is"),
+            () -> gazette.setWidth(8), () -> gazette.setPage(1, 20), () -> gazette.passDays(3),
+            () -> Check.execute(gazette, "print;days 4;width 9"), () -> gazette.removeArticle(0),
+        };
+        for (int i = 0; i < count; i++) {
+            changes[i].run();
         }
+        return gazette;
+    }
+
+    private static void eachChange() {
+        for (int kept = 0; kept < 8; kept++) {
+            StoneGazette gazette = changed(8);
+            for (int left = 7; left >= kept; left--) {
+                Check.same("50 left", gazette.undo(), left);
+                Check.same("51 left", gazette.undoCount(), left);
+            }
+            Check.same("50 as before change " + kept, seen(gazette), seen(changed(kept)));
+        }
+        StoneGazette gazette = changed(5);
+        gazette.print();
+        Check.same("50 page before undo", gazette.coverage(1), 2.0f / 20.0f);
+        gazette.undo();
+        gazette.undo();
+        gazette.print();
+        Check.same("50 page after undo", gazette.coverage(1), 2.0f / 16.0f);
     }
 
     private static void atMostEight() {
